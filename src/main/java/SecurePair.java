@@ -99,10 +99,7 @@ public final class SecurePair {
     }
 
     public int begin(int e) throws IndexOutOfBoundsException, IllegalStateException {
-        Endpoint endpoint = endpointOf(e);
-        if (endpoint == null) {
-            throw new IndexOutOfBoundsException("no such endpoint");
-        }
+        Endpoint endpoint = endpointOrThrow(e);
         if (!endpoint.mayStart()) {
             throw new IllegalStateException("neither new nor ready");
         }
@@ -111,10 +108,7 @@ public final class SecurePair {
     }
 
     public int deliver(int e) throws IndexOutOfBoundsException {
-        Endpoint endpoint = endpointOf(e);
-        if (endpoint == null) {
-            throw new IndexOutOfBoundsException("no such endpoint");
-        }
+        Endpoint endpoint = endpointOrThrow(e);
         if (endpoint.arriving.size == 0) {
             return 0;
         }
@@ -126,10 +120,7 @@ public final class SecurePair {
     }
 
     public int open(int e) throws IndexOutOfBoundsException, IllegalStateException, UnsupportedOperationException {
-        Endpoint endpoint = endpointOf(e);
-        if (endpoint == null) {
-            throw new IndexOutOfBoundsException("no such endpoint");
-        }
+        Endpoint endpoint = endpointOrThrow(e);
         if (endpoint.phase != PHASE_READY) {
             throw new IllegalStateException("not ready");
         }
@@ -143,14 +134,8 @@ public final class SecurePair {
 
     public int write(int e, int c, long bytes, int n)
             throws IndexOutOfBoundsException, IllegalStateException, IllegalArgumentException {
-        Endpoint endpoint = endpointOf(e);
-        Channel channel = channelOf(endpoint, c);
-        if (endpoint == null || channel == null) {
-            throw new IndexOutOfBoundsException("no such endpoint or channel");
-        }
-        if (!endpoint.mayUse(channel)) {
-            throw new IllegalStateException("not ready, or the channel is not open");
-        }
+        Endpoint endpoint = endpointOrThrow(e);
+        Channel channel = usableOrThrow(endpoint, c);
         if (n < 1 || n > MOST_BYTES) {
             throw new IllegalArgumentException("not 1 to 8 bytes");
         }
@@ -158,25 +143,16 @@ public final class SecurePair {
     }
 
     public int read(int e, int c) throws IndexOutOfBoundsException {
-        Endpoint endpoint = endpointOf(e);
-        Channel channel = channelOf(endpoint, c);
-        if (endpoint == null || channel == null) {
-            throw new IndexOutOfBoundsException("no such endpoint or channel");
-        }
+        Endpoint endpoint = endpointOrThrow(e);
+        Channel channel = channelOrThrow(endpoint, c);
         int first = channel.takeByte();
         endpoint.makeRoom(channel);
         return first;
     }
 
     public int close(int e, int c) throws IndexOutOfBoundsException, IllegalStateException {
-        Endpoint endpoint = endpointOf(e);
-        Channel channel = channelOf(endpoint, c);
-        if (endpoint == null || channel == null) {
-            throw new IndexOutOfBoundsException("no such endpoint or channel");
-        }
-        if (!endpoint.mayUse(channel)) {
-            throw new IllegalStateException("not ready, or the channel is not open");
-        }
+        Endpoint endpoint = endpointOrThrow(e);
+        Channel channel = usableOrThrow(endpoint, c);
         return endpoint.shut(channel);
     }
 
@@ -264,7 +240,8 @@ public final class SecurePair {
     }
 
     public long channel(int e, int c) {
-        Channel channel = channelOf(endpointOf(e), c);
+        Endpoint endpoint = endpointOf(e);
+        Channel channel = endpoint == null ? null : endpoint.channelAt(c);
         return channel == null ? -1 : channel.summary();
     }
 
@@ -293,8 +270,28 @@ public final class SecurePair {
         return endpoint == null ? null : endpoint.arriving;
     }
 
-    private static Channel channelOf(Endpoint endpoint, int c) {
-        return endpoint == null ? null : endpoint.channelAt(c);
+    private Endpoint endpointOrThrow(int e) {
+        Endpoint endpoint = endpointOf(e);
+        if (endpoint == null) {
+            throw new IndexOutOfBoundsException("no such endpoint");
+        }
+        return endpoint;
+    }
+
+    private static Channel channelOrThrow(Endpoint endpoint, int c) {
+        Channel channel = endpoint.channelAt(c);
+        if (channel == null) {
+            throw new IndexOutOfBoundsException("no such channel");
+        }
+        return channel;
+    }
+
+    private static Channel usableOrThrow(Endpoint endpoint, int c) {
+        Channel channel = channelOrThrow(endpoint, c);
+        if (!endpoint.mayUse(channel)) {
+            throw new IllegalStateException("not ready, or the channel is not open");
+        }
+        return channel;
     }
 
     private static boolean isPart(int what) {

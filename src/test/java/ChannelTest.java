@@ -15,6 +15,7 @@ public final class ChannelTest {
         orderOfRefusals();
         bytesInTheirOrder();
         writeIntoASmallWindow();
+        lastByteOfAWindow();
         readTellsWindows();
         readWindowWaitsForReady();
         readWithoutBytesTellsAWindowThatWaited();
@@ -228,6 +229,15 @@ public final class ChannelTest {
         for (int b = 2; b <= 4; b++) {
             Check.same("read", pair.read(1, 0), b);
         }
+    }
+
+    private static void lastByteOfAWindow() {
+        SecurePair pair = Pairs.connected();
+        pair.write(0, 0, 0, 8);
+        pair.write(0, 0, 0, 8);
+        pair.write(0, 0, 0, 7);
+        Check.same("a window of one", pair.write(0, 0, 0x0908, 2), 1);
+        new Agreed().checkPacket("its byte", pair, 1, 3, 4, 94, 0, 1, 9, 0);
     }
 
     private static void fill(SecurePair pair) {

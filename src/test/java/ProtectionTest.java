@@ -21,6 +21,8 @@ public final class ProtectionTest {
         forgedOpen();
         forgedWindows();
         channelKindsDuringAnExchange();
+        genuineUseOfAChannelThatIsGone();
+        moreThanTheRoom();
         Check.end();
     }
 
@@ -336,5 +338,70 @@ public final class ProtectionTest {
         Check.same("OPEN when turning", pair.deliver(1), 90);
         Check.same("still turning", pair.phase(1), 3);
         Check.same("CONFIRM was sent with the new keys", pair.state(1, 0), 1);
+    }
+
+    /** The first packet of the line to e goes, and a forged one with its number stands in its place. */
+    private static void replaceFirst(Agreed agreed, SecurePair pair, int e, int kind, long w) {
+        agreed.forge(pair, e, kind, w);
+        pair.swap(e);
+        pair.lose(e);
+    }
+
+    /** Connected, with 16 bytes at the server; then the client was told that channel 0 is closed, and the server knows nothing of it. */
+    private static SecurePair closedForTheClientAlone() {
+        SecurePair pair = Pairs.connected();
+        pair.write(0, 0, 1, 8);
+        pair.write(0, 0, 2, 8);
+        Pairs.settle(pair);
+        pair.write(1, 0, 3, 1);
+        replaceFirst(new Agreed(), pair, 0, 97, 0);
+        Check.same("deliver", pair.deliver(0), 97);
+        Check.same("free for the client", pair.channel(0, 0), 0);
+        return pair;
+    }
+
+    private static void useFromTheServer(String what, SecurePair pair, boolean window) {
+        if (window) {
+            for (int i = 0; i < 12; i++) {
+                pair.read(1, 0);
+            }
+        } else {
+            pair.write(1, 0, 4, 8);
+        }
+        Check.same(what, pair.deliver(0), window ? 93 : 94);
+        Check.same(what, pair.phase(0), 5 + 8 * 7);
+    }
+
+    private static void genuineUseOfAChannelThatIsGone() {
+        for (int i = 0; i < 2; i++) {
+            boolean window = i == 0;
+            useFromTheServer("on a free channel", closedForTheClientAlone(), window);
+            SecurePair opening = closedForTheClientAlone();
+            opening.open(0);
+            useFromTheServer("on an opening channel", opening, window);
+        }
+    }
+
+    private static void moreThanTheRoom() {
+        for (int last : new int[] {0, 1, 7}) {
+            Agreed agreed = new Agreed();
+            for (int secret = 2; agreed.mask(1, 0, 2) < 100; secret++) {
+                agreed.clientSecret = secret;
+            }
+            SecurePair pair = new SecurePair();
+            pair.secret(0, (int) agreed.clientSecret);
+            pair.begin(0);
+            Pairs.settle(pair);
+            pair.open(0);
+            replaceFirst(agreed, pair, 1, 90, 0);
+            Pairs.settle(pair);
+            Check.same("write", pair.write(1, 0, 1, 8) + pair.write(1, 0, 1, 8) + pair.write(1, 0, 1, 8 - last), 24 - last);
+            Pairs.settle(pair);
+            Check.same("ready as long as there is room", pair.phase(0), 4);
+            Check.same("a window beyond the room", pair.write(1, 0, 1, last + 1), last + 1);
+            pair.deliver(0);
+            Check.same("more than the room", pair.phase(0), 5 + 8 * 7);
+            Check.same("none of them came", pair.channel(0, 0) >> 4 & 63, 24 - last);
+        }
     }
 }
