@@ -21,6 +21,7 @@ public final class ProtectionTest {
         forgedOpen();
         forgedWindows();
         channelKindsDuringAnExchange();
+        countsOfBothSigns();
         genuineUseOfAChannelThatIsGone();
         moreThanTheRoom();
         Check.end();
@@ -338,6 +339,32 @@ public final class ProtectionTest {
         Check.same("OPEN when turning", pair.deliver(1), 90);
         Check.same("still turning", pair.phase(1), 3);
         Check.same("CONFIRM was sent with the new keys", pair.state(1, 0), 1);
+    }
+
+    /** DATA and WINDOW on an open channel with whatever counts the masks make, below 1 and above all limits. */
+    private static void countsOfBothSigns() {
+        int below = 0;
+        int above = 0;
+        for (int i = 0; i < 16; i++) {
+            for (int kind = 93; kind <= 94; kind++) {
+                Agreed agreed = new Agreed();
+                agreed.serverSecret = 500 + i;
+                SecurePair pair = new SecurePair();
+                pair.secret(1, 500 + i);
+                pair.begin(0);
+                Pairs.settle(pair);
+                pair.open(0);
+                Pairs.settle(pair);
+                long count = agreed.mask(1, 1, 2);
+                agreed.forge(pair, 1, kind, 0);
+                pair.deliver(1);
+                Check.same("kind " + kind + " with " + count, pair.phase(1), 5 + 8 * 7);
+                Check.same("and nothing came of it", pair.channel(1, 0), 2 + 1024 * 24 + 65536 * 24);
+                below += count < 1 ? 1 : 0;
+                above += count > 1000 ? 1 : 0;
+            }
+        }
+        Check.yes("counts of both signs were tried", below > 0 && above > 0);
     }
 
     /** The first packet of the line to e goes, and a forged one with its number stands in its place. */
