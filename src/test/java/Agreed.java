@@ -42,8 +42,13 @@ final class Agreed {
     }
 
     long tag(int e, long number, long kind, long... w) {
+        return Crypto.mix(Crypto.mix(tagBefore(e, number, kind, w[0], w[1]), w[2]), w[3]);
+    }
+
+    /** The chain of a tag as far as x, before y and z come into it. */
+    long tagBefore(int e, long number, long kind, long w, long x) {
         long key = Crypto.chain(common(), hash(), e == 1 ? 3 : 4, session());
-        return Crypto.chain(key, tagKind, number, kind, w[0], w[1], w[2], w[3]);
+        return Crypto.chain(key, tagKind, number, kind, w, x);
     }
 
     /** Packet k of the line to e is the protected one with this number, kind and these w, x, y, z. */

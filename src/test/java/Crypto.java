@@ -36,4 +36,14 @@ final class Crypto {
         return BigInteger.valueOf(e).multiply(BigInteger.valueOf(hostSecret)).add(BigInteger.valueOf(k))
                 .mod(BigInteger.valueOf(P - 1)).longValueExact();
     }
+
+    static boolean verifies(long part, long r, long s, long value) {
+        for (long number : new long[] {part, r, s}) {
+            if (number < 1 || number > P - 1) {
+                return false;
+            }
+        }
+        BigInteger right = BigInteger.valueOf(r).multiply(BigInteger.valueOf(power(part, chain(r, value) >>> 34)));
+        return BigInteger.valueOf(power(7, s)).equals(right.mod(BigInteger.valueOf(P)));
+    }
 }

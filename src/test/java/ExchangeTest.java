@@ -20,6 +20,8 @@ public final class ExchangeTest {
         signaturesThatDoNotVerify();
         aReplyOfAnotherServer();
         partsAndNumbersOutsideTheGroup();
+        powerOfNought();
+        signaturesOfManyValues();
         trustIsLookedAtBeforeTheSignature();
         newKeysOutOfPlace();
         newKeysFromAnother();
@@ -419,6 +421,44 @@ public final class ExchangeTest {
         Check.same("r below 0", reply(1, 343, -1, (int) (P - 1) / 2).phase(0), 5 + 8 * 4);
         Check.same("r = 0", reply(1, 343, 0, 1).phase(0), 5 + 8 * 4);
         Check.same("r = p", reply(1, 343, (int) P, 1).phase(0), 5 + 8 * 4);
+        Check.same("r = 1", reply(1, 343, 1, (int) P - 1).phase(0), 3);
+        SecurePair greatest = new SecurePair();
+        Check.same("the secret (p - 1) / 2", greatest.host(1073741823), P - 1);
+        greatest.begin(0);
+        Pairs.settle(greatest);
+        Check.same("part p - 1", greatest.phase(0), 4);
+    }
+
+    /** POWER is "1 for e = 0": r was searched such that the number e of the signature is 0, and s such that r is POWER(7, s). */
+    private static void powerOfNought() {
+        long r = 392702925;
+        long s = 415274982;
+        Check.same("e", Crypto.chain(r, new Agreed().hash()) >>> 34, 0);
+        Check.same("r", Crypto.power(7, s), r);
+        Check.same("taken", reply(16807, 343, (int) r, (int) s).phase(0), 3);
+        Check.same("another s", reply(16807, 343, (int) r, (int) s + 1).phase(0), 5 + 8 * 4);
+    }
+
+    private static void signaturesOfManyValues() {
+        int odd = 0;
+        for (int secret = 1; secret <= 60; secret++) {
+            Agreed agreed = new Agreed();
+            agreed.clientSecret = secret;
+            agreed.hostSecret = 2147483645 - secret;
+            SecurePair pair = new SecurePair();
+            pair.secret(0, secret);
+            pair.host(2147483645 - secret);
+            pair.begin(0);
+            pair.deliver(1);
+            pair.deliver(0);
+            pair.deliver(1);
+            long h = agreed.hash();
+            checkRow("REPLY", pair, 0, 0, 31, agreed.part(), 343, Crypto.signatureR(h), Crypto.signatureS(h, agreed.hostSecret), 0);
+            Pairs.settle(pair);
+            Check.same("it verifies", pair.phase(0), 4);
+            odd += (int) (h & 1);
+        }
+        Check.yes("odd ones and even ones", odd > 10 && odd < 50);
     }
 
     private static void trustIsLookedAtBeforeTheSignature() {

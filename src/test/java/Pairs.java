@@ -42,6 +42,32 @@ final class Pairs {
         return pair;
     }
 
+    /**
+     * A pair of which e is in this phase: of its first exchange, or, again, of the second one with channel 0 open
+     * between both. The line to e is empty, so that what comes next is the test's.
+     */
+    static SecurePair inPhase(int e, int phase, boolean again) {
+        SecurePair pair = again ? connected() : new SecurePair();
+        if (phase >= 1 && phase <= 3) {
+            pair.begin(phase == 1 ? e : 0);
+        }
+        int steps = phase == 2 || phase == 3 ? 2 * phase - 2 - e : 0;
+        for (int i = 0; i < steps; i++) {
+            pair.deliver((i + 1) % 2);
+        }
+        if (phase == 4 && !again) {
+            pair.begin(0);
+            settle(pair);
+        }
+        if (phase == 5) {
+            pair.leave(e, 6);
+        }
+        while (pair.lose(e)) {
+            continue;
+        }
+        return pair;
+    }
+
     static void fillLine(SecurePair pair, int e) {
         for (int i = pair.line(e); i < 16; i++) {
             pair.insert(e, 2, 0, 0);
