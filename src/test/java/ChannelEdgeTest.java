@@ -21,6 +21,7 @@ public final class ChannelEdgeTest {
         windowIsALong();
         openWithTheWindowThatItTells();
         confirmWithTheWindowThatItTells();
+        confirmWithAWindowOfOnesChoice();
         openTakesTheLeastFree();
         openWhenThereIsNoneFree();
         anyOtherStateOfTheChannel();
@@ -179,14 +180,14 @@ public final class ChannelEdgeTest {
         Check.same("it falls", pair.channel(1, 0), channelOf(IS_OPEN, 0, 0, 24, 40015));
     }
 
-    private static void writeFromWindow(SecurePair pair, int e, int c, long window) {
+    private static void writeFromWindow(SecurePair pair, int e, int c, int peer, long window) {
         long due = Math.max(0, Math.min(5, window));
         int sent = pair.line(1 - e);
         Check.same("write of 5 bytes from a window of " + window, pair.write(e, c, 0x0102030405L, 5), due);
         Check.same("sent", pair.line(1 - e), due == 0 ? sent : sent + 1);
         if (due > 0) {
             long front = 0x0102030405L >> 8 * (5 - due);
-            AGREED.checkPacket("DATA", pair, 1 - e, sent, pair.state(e, 0) - 1, DATA, 2, due, front, 0);
+            AGREED.checkPacket("DATA", pair, 1 - e, sent, pair.state(e, 0) - 1, DATA, peer, due, front, 0);
         }
         Check.same("what is left of it", pair.channel(e, c) >> 16, window - due);
     }
@@ -198,7 +199,7 @@ public final class ChannelEdgeTest {
             give(pair, 1, OPEN, 2, window);
             Check.same("OPEN tells " + window, pair.channel(1, 1), channelOf(IS_OPEN, 2, 0, 24, window));
             AGREED.checkPacket("CONFIRM", pair, 0, 0, 1, CONFIRM, 2, 1, 24, 0);
-            writeFromWindow(pair, 1, 1, window);
+            writeFromWindow(pair, 1, 1, 2, window);
         }
     }
 
@@ -209,7 +210,45 @@ public final class ChannelEdgeTest {
             long window = Forger.change(AGREED, pair, e, CONFIRM, 0, 2);
             pair.deliver(e);
             Check.same("CONFIRM tells " + window, pair.channel(e, 0), channelOf(IS_OPEN, 2, 0, 24, window));
-            writeFromWindow(pair, e, 0, window);
+            writeFromWindow(pair, e, 0, 2, window);
+        }
+    }
+
+    /**
+     * As the one before, with windows that the test chooses: the first CONFIRM to e becomes one that tells this peer's
+     * channel and this window. Forger leaves y open, so what z and the tag change by was searched beforehand.
+     */
+    private static void confirmWithAWindowOfOnesChoice() {
+        int[][] rows = {
+            // e, peer's channel, window, change of z, change of the tag
+            {0, 1, 0, -1640644544, -297598560},
+            {0, 2, 4, 1919633779, -912834816},
+            {0, 2, 6, -561439869, -2067573487},
+            {0, 0, 1001, -338564256, -928784967},
+            {0, 2, -1, 1936312156, -1492559658},
+            {0, 0, Integer.MIN_VALUE, -1224901729, 1864720557},
+            {0, 2, Integer.MAX_VALUE, -2122444418, 171383091},
+            {1, 0, 0, 1129180455, 23524473},
+            {1, 1, 1, 1191924319, -501800754},
+            {1, 2, 4, -964722581, 370544849},
+            {1, 0, 5, 1655385058, 138684717},
+            {1, 0, 6, 1705890865, -1357734984},
+            {1, 1, 1001, -823627540, -458879828},
+            {1, 0, -1, 2114956318, 464937646},
+        };
+        for (int[] row : rows) {
+            int e = row[0];
+            SecurePair pair = Pairs.ready();
+            pair.open(e);
+            pair.deliver(1 - e);
+            pair.alter(e, 2, row[1]);
+            pair.alter(e, 3, row[2] ^ 24);
+            pair.alter(e, 4, row[3]);
+            pair.alter(e, 5, row[4]);
+            AGREED.checkPacket("the altered CONFIRM", pair, e, 0, 0, CONFIRM, 0, row[1], row[2], row[3]);
+            Check.same("deliver", pair.deliver(e), CONFIRM);
+            Check.same("CONFIRM tells " + row[2], pair.channel(e, 0), channelOf(IS_OPEN, row[1], 0, 24, row[2]));
+            writeFromWindow(pair, e, 0, row[1], row[2]);
         }
     }
 

@@ -20,6 +20,7 @@ public final class ExchangeTest {
         signaturesThatDoNotVerify();
         aReplyOfAnotherServer();
         partsAndNumbersOutsideTheGroup();
+        aGenuineSignatureWithNought();
         powerOfNought();
         signaturesOfManyValues();
         trustIsLookedAtBeforeTheSignature();
@@ -427,6 +428,24 @@ public final class ExchangeTest {
         greatest.begin(0);
         Pairs.settle(greatest);
         Check.same("part p - 1", greatest.phase(0), 4);
+    }
+
+    /** The server's secrets were searched such that its own s is 0: it sends that, but s must be "from 1 to p - 1". */
+    private static void aGenuineSignatureWithNought() {
+        for (int hostSecret : new int[] {435816864, 855088318}) {
+            for (int change : new int[] {0, (int) P - 1}) {
+                Agreed agreed = new Agreed();
+                agreed.hostSecret = hostSecret;
+                SecurePair pair = Pairs.sharing();
+                Check.same("host", pair.host(hostSecret), agreed.part());
+                pair.deliver(1);
+                checkRow("REPLY", pair, 0, 0, 31, agreed.part(), 343, Crypto.signatureR(agreed.hash()), 0, 0);
+                Check.same("the server goes on", pair.phase(1), 3);
+                pair.alter(0, 4, change);
+                pair.deliver(0);
+                Check.same("s = " + change, pair.phase(0), change == 0 ? 5 + 8 * 4 : 3);
+            }
+        }
     }
 
     /** POWER is "1 for e = 0": r was searched such that the number e of the signature is 0, and s such that r is POWER(7, s). */
