@@ -29,6 +29,7 @@ public final class ChannelEdgeTest {
         freeHasNothing();
         readTellsNoWindowOnOneThatIsNotOpen();
         windowForTwelveOrMore();
+        windowOnAChannelUsedAgain();
         closeTellsWhatWasInTheInbox();
         Check.end();
     }
@@ -414,6 +415,38 @@ public final class ChannelEdgeTest {
                     channelOf(IS_OPEN, 0, 24 - told, told >= 12 ? told : 0, 24));
             Pairs.settle(pair);
             Check.same("window for " + told, pair.channel(0, 0), channelOf(IS_OPEN, 0, 0, 24, told >= 12 ? told : 0));
+        }
+    }
+
+    private static void readBytes(SecurePair pair, int count) {
+        pair.write(0, 0, 0, count > 8 ? 8 : count);
+        if (count > 8) {
+            pair.write(0, 0, 0, count - 8);
+        }
+        Pairs.settle(pair);
+        for (int i = 0; i < count; i++) {
+            Check.same("byte", pair.read(1, 0), 0);
+        }
+    }
+
+    /** Promise 10: what was read on a channel before it became free is no part of the 12 bytes. */
+    private static void windowOnAChannelUsedAgain() {
+        for (int before = 1; before <= 13; before++) {
+            for (int closing = 0; closing < 2; closing++) {
+                SecurePair pair = Pairs.connected();
+                readBytes(pair, before);
+                Pairs.settle(pair);
+                pair.close(closing, 0);
+                Pairs.settle(pair);
+                Check.same("free", pair.channel(1, 0), 0);
+                pair.open(0);
+                Pairs.settle(pair);
+                readBytes(pair, 11);
+                Check.same("11 bytes, " + before + " before", pair.line(0), 0);
+                readBytes(pair, 1);
+                AGREED.checkPacket("WINDOW", pair, 0, 0, pair.state(1, 0) - 1, WINDOW, 0, 12, 0, 0);
+                Check.same("12 bytes, " + before + " before", pair.channel(1, 0), channelOf(IS_OPEN, 0, 0, 24, 24));
+            }
         }
     }
 

@@ -1,6 +1,10 @@
 import java.io.IOException;
 import java.nio.file.Files;
 import java.nio.file.Path;
+import java.util.Map;
+import java.util.Set;
+import java.util.TreeMap;
+import java.util.TreeSet;
 import java.util.regex.Matcher;
 import java.util.regex.Pattern;
 
@@ -13,7 +17,7 @@ public final class LanguageTest {
         "\\bdouble\\b", "\\bfloat\\b", "\\bprotected\\b", "\\bstatic\\s*\\{", "\\b(equals|hashCode|toString)\\s*\\(",
         "\\bvar\\b", "\\.\\.\\.",
     };
-    private static final Pattern METHOD = Pattern.compile("\n( {4}| {8})[a-z][\\w<>\\[\\] ]* \\w+\\(([^)]*)\\)[^;{]*\\{\n");
+    private static final Pattern METHOD = Pattern.compile("\n( {4}| {8})[A-Za-z][\\w<>\\[\\] ]* (\\w+)\\(([^)]*)\\)[^;{]*\\{\n");
 
     public static void main(String[] args) throws IOException {
         String text = Files.readString(PROGRAM);
@@ -23,6 +27,8 @@ public final class LanguageTest {
         }
         staticFieldsAreConstants(code);
         methodsAreShort(code);
+        callsGoAtMostEightDeep(code);
+        nothingIsMadeByACall(code);
         Check.yes("at most twelve classes", code.split("\\bclass\\b").length - 1 <= 12);
         Check.yes("one public class", code.split("public final class").length == 2);
         Check.end();
@@ -35,6 +41,49 @@ public final class LanguageTest {
         }
     }
 
+    /** Which methods each method calls, by their names; of a method that two classes have, both together. */
+    private static Map<String, Set<String>> callsOf(String code) {
+        Map<String, String> bodies = new TreeMap<>();
+        Matcher method = METHOD.matcher(code);
+        while (method.find()) {
+            String end = "\n" + method.group(1) + "}\n";
+            String body = code.substring(method.end(), code.indexOf(end, method.start()));
+            bodies.merge(method.group(2), body, String::concat);
+        }
+        Map<String, Set<String>> calls = new TreeMap<>();
+        for (String caller : bodies.keySet()) {
+            calls.put(caller, new TreeSet<>(bodies.keySet()));
+            calls.get(caller).removeIf(called -> !Pattern.compile("\\b" + called + "\\(").matcher(bodies.get(caller)).find());
+        }
+        return calls;
+    }
+
+    private static int depthOf(String method, Map<String, Set<String>> calls, int above) {
+        int deepest = 0;
+        for (String called : above < 20 ? calls.get(method) : Set.<String>of()) {
+            deepest = Math.max(deepest, depthOf(called, calls, above + 1));
+        }
+        return deepest + 1;
+    }
+
+    private static void callsGoAtMostEightDeep(String code) {
+        Map<String, Set<String>> calls = callsOf(code);
+        Check.yes("methods were found", calls.size() > 60);
+        Check.yes("deliver receives", calls.get("deliver").contains("receive"));
+        for (String method : calls.keySet()) {
+            Check.yes("at most eight deep: " + method, depthOf(method, calls, 0) <= 8);
+        }
+    }
+
+    /** All rows are made with the object, so that no number of calls fills the room. */
+    private static void nothingIsMadeByACall(String code) {
+        Matcher made = Pattern.compile("\n *([^\n]*)\\bnew\\b").matcher(code);
+        while (made.find()) {
+            Check.yes("made by a constructor: " + made.group(),
+                    made.group(1).matches("throw |final .* = |Line to\\w+ = |client = |server = |channels\\[c\\] = "));
+        }
+    }
+
     private static void methodsAreShort(String code) {
         Matcher method = METHOD.matcher(code);
         int seen = 0;
@@ -43,7 +92,7 @@ public final class LanguageTest {
             String end = "\n" + method.group(1) + "}\n";
             int lines = code.substring(method.start(), code.indexOf(end, method.start())).split("\n").length;
             Check.yes("at most sixty lines:" + method.group(), lines <= 60);
-            Check.yes("at most seven parameters:" + method.group(), method.group(2).split(",").length <= 7);
+            Check.yes("at most seven parameters:" + method.group(), method.group(3).split(",").length <= 7);
         }
         Check.yes("methods were found", seen > 40);
     }
